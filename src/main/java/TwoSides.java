@@ -77,12 +77,14 @@ public final class TwoSides {
     }
 
     public int answers() {
-        return capped(solver.howMany(equations));
+        solver.survey(equations);
+        return capped(solver.howMany());
     }
 
     public int answer(int i, int unknown, int k) {
         if (isNoneOfFour(unknown)) return UNKNOWN;
         if (i < 0 || i > 999999999 || k < -1) return OUTSIDE;
+        solver.survey(equations);
         return solver.told(equations, i, unknown, k);
     }
 
@@ -94,13 +96,15 @@ public final class TwoSides {
     }
 
     public int rank() {
+        solver.survey(equations);
         return capped(solver.rankOfHeard(equations));
     }
 
     public int sure(int unknown, int place) {
         if (isNoneOfFour(unknown)) return UNKNOWN;
         if (place < 0 || place >= MOST_PUT) return OUTSIDE;
-        return solver.sureLetter(equations, unknown, place);
+        solver.survey(equations);
+        return solver.sureLetter(unknown, place);
     }
 
     // ---- chains
@@ -723,10 +727,11 @@ public final class TwoSides {
         private final int[] heardLengths = new int[FOUR];
         private final int[] least = new int[FOUR];
         private final int[] most = new int[FOUR];
-        private final int[] rowLengths = new int[MOST_ROWS];
-        private final long[] ahead = new long[MOST_ROWS];
         private final int[] sureLetters = new int[FOUR * MOST_PUT];
         private final Filling filling = new Filling();
+        // the rows are long: they are made once, when the first survey needs them
+        private int[] rowLengths = new int[0];
+        private long[] ahead = new long[0];
         private int rows = 0;
         private long total = 0;
         private boolean surveyed = false;
@@ -755,15 +760,35 @@ public final class TwoSides {
             heardLengths[unknown] = n;
         }
 
-        long howMany(Equations equations) {
-            survey(equations);
+        /** Finds the rows anew, if equations or bounds changed; to be called ahead of what follows. */
+        void survey(Equations equations) {
+            if (surveyed) return;
+            surveyed = true;
+            rows = 0;
+            total = 0;
+            if (rowLengths.length < MOST_ROWS || ahead.length < MOST_ROWS) {
+                rowLengths = new int[MOST_ROWS];
+                ahead = new long[MOST_ROWS];
+            }
+            Arrays.fill(sureLetters, UNSEEN);
+            for (int u = 0; u < FOUR; u++) {
+                // an unknown that is in no equation is put no letters, and has no word if its bounds forbid that
+                boolean used = equations.hasUnknown(u);
+                least[u] = lo[u];
+                most[u] = used ? hi[u] : 0;
+            }
+            int shortest = least[0] + least[1] + least[2] + least[3];
+            int longest = most[0] + most[1] + most[2] + most[3];
+            for (int all = shortest; all <= longest; all++) surveyOfLength(equations, all);
+        }
+
+        long howMany() {
             return total;
         }
 
         int told(Equations equations, int i, int unknown, int k) {
-            survey(equations);
-            if (i < 0 || i >= total) return NONE;
             int row = rowOf(i);
+            if (i < 0 || i >= total || row >= rows) return NONE;
             filling.lay(rowLengths[row]);
             if (k == -1) return filling.length(unknown);
             if (k >= filling.length(unknown) || !filling.solves(equations, letters)) return NONE;
@@ -783,7 +808,6 @@ public final class TwoSides {
         }
 
         long rankOfHeard(Equations equations) {
-            survey(equations);
             int code = codeOf(heardLengths[0], heardLengths[1], heardLengths[2], heardLengths[3]);
             for (int row = 0; row < rows; row++) {
                 if (rowLengths[row] != code) continue;
@@ -795,8 +819,7 @@ public final class TwoSides {
             return NONE;
         }
 
-        int sureLetter(Equations equations, int unknown, int place) {
-            survey(equations);
+        int sureLetter(int unknown, int place) {
             int cell = unknown * MOST_PUT + place;
             if (cell < 0 || cell >= sureLetters.length || sureLetters[cell] == UNSEEN) return NONE;
             return sureLetters[cell];
@@ -804,23 +827,6 @@ public final class TwoSides {
 
         private static int codeOf(int w, int x, int y, int z) {
             return w << 12 | x << 8 | y << 4 | z;
-        }
-
-        private void survey(Equations equations) {
-            if (surveyed) return;
-            surveyed = true;
-            rows = 0;
-            total = 0;
-            Arrays.fill(sureLetters, UNSEEN);
-            for (int u = 0; u < FOUR; u++) {
-                // an unknown that is in no equation is put no letters, and has no word if its bounds forbid that
-                boolean used = equations.hasUnknown(u);
-                least[u] = lo[u];
-                most[u] = used ? hi[u] : 0;
-            }
-            int shortest = least[0] + least[1] + least[2] + least[3];
-            int longest = most[0] + most[1] + most[2] + most[3];
-            for (int all = shortest; all <= longest; all++) surveyOfLength(equations, all);
         }
 
         private void surveyOfLength(Equations equations, int all) {
@@ -836,7 +842,7 @@ public final class TwoSides {
 
         private void addRow(Equations equations, int code) {
             filling.lay(code);
-            if (rows >= MOST_ROWS || !filling.solves(equations, letters)) return;
+            if (rows >= rowLengths.length || rows >= ahead.length || !filling.solves(equations, letters)) return;
             long ways = filling.ways();
             if (ways == 0) return;
             rowLengths[rows] = code;
@@ -1152,15 +1158,16 @@ public final class TwoSides {
     private static final class Chase {
         private static final int LONGEST = 300;
 
-        private final Graph graph = new Graph();
         private final boolean[] followed = new boolean[FOUR];
         private final int[] refused = new int[FOUR];
         private final int[] manyMet = new int[FOUR];
         private final int[] manyPut = new int[FOUR];
         private final int[] rings = new int[FOUR];
-        private final int[][] steps = new int[FOUR][Graph.MOST];
         private final int[][] words = new int[FOUR][LONGEST];
         private final int[] sizes = new int[FOUR];
+        // the graph and the steps are long: they are made once, when the first chase needs them
+        private final int[][] steps = new int[FOUR][0];
+        private Graph graph = null;
 
         void forget() {
             Arrays.fill(followed, false);
@@ -1175,6 +1182,8 @@ public final class TwoSides {
             for (int u = 0; u < FOUR; u++) {
                 if (equations.times(e, u) > 2) return NOT;
             }
+            if (graph == null) graph = new Graph();
+            if (steps[e].length == 0) steps[e] = new int[Graph.MOST];
             graph.grow(equations.side(e, 0), equations.side(e, 1));
             refused[e] = graph.isSpent() ? SPENT : 0;
             if (graph.isSpent()) return SPENT;
@@ -1197,7 +1206,7 @@ public final class TwoSides {
         }
 
         int chosen(int e, int i) {
-            if (isNoneOfFour(e) || i < 0 || i >= manyPut[e] || manyPut[e] > Graph.MOST) return NONE;
+            if (isNoneOfFour(e) || i < 0 || i >= manyPut[e] || manyPut[e] > steps[e].length) return NONE;
             return steps[e][manyPut[e] - 1 - i] & 3;
         }
 
@@ -1211,7 +1220,7 @@ public final class TwoSides {
         /** Builds the words by the chain, each from its last letter to its first; whether none is too long. */
         private boolean buildWords(int e) {
             Arrays.fill(sizes, 0);
-            for (int i = 0; i < manyPut[e] && i < Graph.MOST; i++) {
+            for (int i = 0; i < manyPut[e] && i < steps[e].length; i++) {
                 int unknown = unknownOf(steps[e][i] >> 2 & 7), put = (steps[e][i] >> 5) - 1;
                 if (put == NONE) sizes[unknown] = 0;
                 else if (isUnknown(put)) prependWord(unknown, unknownOf(put));
@@ -1315,7 +1324,7 @@ public final class TwoSides {
             return NONE;
         }
 
-        /** The length (1 or more) of the falling part that begins at a place: letters follow a period until one is less. */
+        /** The length of the falling part from a place: it goes on until a letter is less than a period ago. */
         private int fallingLength(int from) {
             int like = from, to = from + 1;
             for (; to < size && letters[like] <= letters[to]; to++) {
