@@ -1170,7 +1170,7 @@ public final class TwoSides {
         private Graph graph = null;
 
         void forget() {
-            Arrays.fill(followed, false);
+            for (int e = 0; e < FOUR; e++) followed[e] = false;
         }
 
         /** Chases an equation: 0, or why it is refused. */

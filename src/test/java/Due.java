@@ -1,15 +1,55 @@
+import java.lang.reflect.InvocationTargetException;
+import java.lang.reflect.Method;
+import java.util.Map;
+import java.util.TreeMap;
+import java.util.function.IntUnaryOperator;
+
 /** Counts what is not as due, and ends a test. */
 final class Due {
+    static final int LEAST = Integer.MIN_VALUE, MOST = Integer.MAX_VALUE;
+    /** Numbers that none of four has. */
+    static final int[] NO_FOUR = {LEAST, -1, 4, MOST};
     private static long asked = 0;
     private static int wrong = 0;
+    private static String test = "";
 
     private Due() { }
 
     static void be(String what, long got, long want) {
         asked++;
-        if (got == want) return;
+        if (got != want) fail(what + " answered " + got + ", due is " + want);
+    }
+
+    /** Each of some numbers as an argument is answered alike. */
+    static void each(String what, int[] numbers, IntUnaryOperator call, int want) {
+        for (int n : numbers) be(what + " " + n, call.applyAsInt(n), want);
+    }
+
+    private static void fail(String what) {
         wrong++;
-        if (wrong <= 50) System.out.println(what + " answered " + got + ", due is " + want);
+        if (wrong <= 50) System.out.println(test + what);
+    }
+
+    /** Runs every test of a class by itself: a method without parameters, named after its promise and sentence. */
+    static void all(Class<?> tests) throws IllegalAccessException {
+        Map<String, Method> named = new TreeMap<>();
+        for (Method m : tests.getDeclaredMethods()) {
+            if (m.getName().matches("(promise|terms)\\d\\d_\\w+")) named.put(m.getName(), m);
+        }
+        for (Map.Entry<String, Method> one : named.entrySet()) {
+            test = one.getKey() + ": ";
+            long before = asked;
+            one.getValue().setAccessible(true);
+            try {
+                one.getValue().invoke(null);
+            } catch (InvocationTargetException e) {
+                fail("ended by " + e.getCause());
+            }
+            if (asked == before) fail("asked nothing");
+        }
+        test = "";
+        System.out.println(named.size() + " tests");
+        end();
     }
 
     static void hold(String what, boolean holds) {
@@ -40,6 +80,17 @@ final class Due {
         write(t, equations);
         t.take();
         return t;
+    }
+
+    /** A side of an equation as a text. */
+    static String side(TwoSides t, int equation, int side) {
+        StringBuilder told = new StringBuilder();
+        for (int i = 0; i < 13; i++) {
+            int item = t.item(equation, side, i);
+            if (item < 0) break;
+            told.append(item > 7 ? '?' : "abc?wxyz".charAt(item));
+        }
+        return told.toString();
     }
 
     /** A word of letters a, b, c as a number. */
@@ -99,8 +150,6 @@ final class Due {
 
     static void same(String what, String got, String want) {
         asked++;
-        if (got.equals(want)) return;
-        wrong++;
-        System.out.println(what + " answered " + got + ", due is " + want);
+        if (!got.equals(want)) fail(what + " answered " + got + ", due is " + want);
     }
 }

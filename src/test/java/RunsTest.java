@@ -12,6 +12,7 @@ public final class RunsTest {
     private final Slow slow = new Slow();
     private final StringBuilder said = new StringBuilder();
     private final int widest;
+    private int calls = 0;
 
     private RunsTest(long seed, int widest) {
         random = new Random(seed);
@@ -19,13 +20,14 @@ public final class RunsTest {
     }
 
     public static void main(String[] args) {
-        int runs = args.length > 0 ? Integer.parseInt(args[0]) : 400;
+        int runs = args.length > 0 ? Integer.parseInt(args[0]) : 700;
         for (int run = 0; run < runs; run++) new RunsTest(run, run % 3 == 0 ? 8 : 3).run();
         Due.end();
     }
 
     private void run() {
-        for (int call = 0; call < 512; call++) {
+        // the most calls that one of these makes are some 60
+        while (calls < 512 - 60) {
             if (said.length() > 4000) said.delete(0, 2000);
             one(random.nextInt(34));
         }
@@ -76,6 +78,7 @@ public final class RunsTest {
     }
 
     private void due(String call, long got, long want) {
+        calls++;
         said.append(call).append(' ').append(got).append("; ");
         if (want == Slow.SKIP) Due.hold(call + " lies between", got >= TwoSides.NONE && got <= TwoSides.MANY);
         else if (got != want) Due.be(said + "\n" + call, got, want);
@@ -167,6 +170,7 @@ public final class RunsTest {
         if (many > 0 && random.nextBoolean()) {
             int at = random.nextInt((int) Math.min(many, 1000000000));
             String[] words = Due.answer(fast, at).split(",", -1);
+            calls += 8 + String.join("", words).length();
             for (int u = 0; u < 4; u++) tell(u, (int) Due.word(words[u]), words[u].length());
             Due.be("rank of answer " + at, fast.rank(), at);
         }
