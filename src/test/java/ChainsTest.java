@@ -336,8 +336,8 @@ final class ChainsTest {
     }
 
     private static void promise15_eachEquationByItself() {
-        String[] texts = {"=w;=wa", "w=b;xa=wx", "w=b;=xyw", "aw=wa;=w", "xw=wx;w=a", "xx=wa;baxx=wbwa"};
-        int[] due = {NONE, 1, 0, 0, 0, 0};
+        String[] texts = {"=w;=wa", "w=b;xa=wx", "w=b;=xyw", "aw=wa;=w", "xw=wx;w=a", "xx=wa;baxx=wbwa", "xwy=wy;w="};
+        int[] due = {NONE, 1, 0, 0, 0, 0, 0};
         for (int i = 0; i < texts.length; i++) {
             TwoSides t = Due.with(texts[i]);
             Due.hold("the first of " + texts[i], t.ring(0) >= 0);

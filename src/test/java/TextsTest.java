@@ -457,6 +457,11 @@ final class TextsTest {
         t.take();
         Due.be("one of 121", t.answers(), 121);
         Due.same("the second", Due.answer(t, 1), ",,,a");
+        t = Due.with("=;z=b;z=b;z=b");
+        Due.write(t, "z=z");
+        t.take();
+        Due.be("of the same unknown", t.answers(), 121);
+        Due.same("any letter", Due.answer(t, 1), ",,,a");
     }
 
     private static void promise05_aTakenTextIsNotTakenAgain() {
