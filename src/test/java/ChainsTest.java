@@ -1,3 +1,5 @@
+import java.lang.reflect.Field;
+
 /** Terms 3 and promises 13 to 17: what comes of an equation by chains of puttings. */
 final class ChainsTest {
     private static final int NONE = TwoSides.NONE, UNKNOWN = TwoSides.UNKNOWN, OUTSIDE = TwoSides.OUTSIDE, NOT = TwoSides.NOT,
@@ -455,6 +457,60 @@ final class ChainsTest {
             String[] words = new String[4], sides = equation.split("=", -1);
             for (int u = 0; u < 4; u++) words[u] = Due.found(t, 0, u);
             Due.same("both sides of " + equation, Slow.put(sides[0], words), Slow.put(sides[1], words));
+        }
+    }
+
+    /**
+     * An object whose equation 0 has a chain made up here: from its end back x is put nothing, then c x so often, then
+     * w is put x w so often. No equation is known by which a word comes to be so long, so this is laid inside.
+     */
+    private static TwoSides withChain(int lettersOfX, int wordsAheadOfW) throws ReflectiveOperationException {
+        TwoSides t = Due.with("x=");
+        Due.be("met", t.met(0), 2);
+        int w = 4, x = 5, nothing = -1, c = 2;
+        int[] steps = new int[1500];
+        int many = 0;
+        steps[many++] = step(x, nothing);
+        for (int i = 0; i < lettersOfX; i++) steps[many++] = step(x, c);
+        for (int i = 0; i < wordsAheadOfW; i++) steps[many++] = step(w, x);
+        Object chase = inside(TwoSides.class, t, "chase");
+        ((int[][]) inside(chase.getClass(), chase, "steps"))[0] = steps;
+        ((int[]) inside(chase.getClass(), chase, "manyPut"))[0] = many;
+        return t;
+    }
+
+    private static int step(int unknown, int put) {
+        return unknown << 2 | put + 1 << 5;
+    }
+
+    private static Object inside(Class<?> type, Object o, String name) throws ReflectiveOperationException {
+        Field field = type.getDeclaredField(name);
+        field.setAccessible(true);
+        return field.get(o);
+    }
+
+    private static void promise17_aWordOf300Letters() throws ReflectiveOperationException {
+        TwoSides t = withChain(300, 1);
+        for (int u = 0; u < 2; u++) {
+            Due.be("length", t.found(0, u, -1), 300);
+            Due.be("its first letter", t.found(0, u, 0), 2);
+            Due.be("its last letter", t.found(0, u, 299), 2);
+            Due.be("behind it", t.found(0, u, 300), NONE);
+        }
+        t = withChain(150, 2);
+        Due.be("by two words", t.found(0, 0, -1), 300);
+        Due.be("its first letter", t.found(0, 0, 0), 2);
+        Due.be("its last letter", t.found(0, 0, 299), 2);
+        Due.be("of another unknown", t.found(0, 3, -1), 0);
+    }
+
+    private static void promise17_oneLetterMoreIsSpent() throws ReflectiveOperationException {
+        for (TwoSides t : new TwoSides[] {withChain(301, 0), withChain(43, 7), withChain(300, 2), withChain(2, 151)}) {
+            for (int k : new int[] {-1, 0, 299, 300, 301, MOST}) Due.be("k " + k, t.found(0, 0, k), SPENT);
+            Due.be("of another unknown", t.found(0, 1, -1), SPENT);
+            Due.be("k ahead of that", t.found(0, 0, -2), OUTSIDE);
+            Due.be("the unknown ahead of that", t.found(0, 4, -1), UNKNOWN);
+            Due.be("met all the same", t.met(0), 2);
         }
     }
 
