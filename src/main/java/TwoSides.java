@@ -15,6 +15,7 @@ public final class TwoSides {
     private static final int MOST_ITEMS = 12;
     private static final int MOST_PUT = 8;
     private static final int MOST_PLACES = 60;
+    private static final int LAST_ANSWER = 999999999;
 
     private final Text text = new Text();
     private final Equations equations = new Equations();
@@ -83,7 +84,7 @@ public final class TwoSides {
 
     public int answer(int i, int unknown, int k) {
         if (isNoneOfFour(unknown)) return UNKNOWN;
-        if (i < 0 || i > 999999999 || k < -1) return OUTSIDE;
+        if (i < 0 || i > LAST_ANSWER || k < -1) return OUTSIDE;
         solver.survey(equations);
         return solver.told(equations, i, unknown, k);
     }
@@ -1017,7 +1018,7 @@ public final class TwoSides {
             there.strike();
             freesFirst = (unknowns & ~there.unknowns()) != 0;
             meet(NONE);
-            for (int node = 0; node < size && !spent; node++) expand(node);
+            for (int node = 0; node < MOST && node < size && !spent; node++) expand(node);
         }
 
         private void expand(int node) {
@@ -1110,7 +1111,7 @@ public final class TwoSides {
             leads[done] = true;
             queue[0] = done;
             int queued = 1;
-            for (int i = 0; i < queued; i++) {
+            for (int i = 0; i < MOST && i < queued; i++) {
                 int edge = lastInto[queue[i]];
                 for (int n = 0; n < FOUR * size && edge >= 0; n++) {
                     int node = edge / FOUR;
@@ -1139,7 +1140,7 @@ public final class TwoSides {
                     queued++;
                 }
             }
-            for (int i = 0; i < queued; i++) {
+            for (int i = 0; i < MOST && i < queued; i++) {
                 for (int k = 0; k < FOUR; k++) {
                     int node = target[FOUR * queue[i] + k];
                     if (!isLeading(node)) continue;
@@ -1310,18 +1311,15 @@ public final class TwoSides {
         }
 
         int fallingParts() {
-            int many = 0;
-            for (int from = 0; from < size; from += fallingLength(from)) many++;
+            int many = 0, from = 0;
+            for (; many < MOST && from < size; many++) from += fallingLength(from);
             return many;
         }
 
         int fallingPart(int k) {
-            int many = 0;
-            for (int from = 0; from < size; from += fallingLength(from)) {
-                if (many == k) return fallingLength(from);
-                many++;
-            }
-            return NONE;
+            int from = 0;
+            for (int part = 0; part < k && part < MOST && from < size; part++) from += fallingLength(from);
+            return from < size ? fallingLength(from) : NONE;
         }
 
         /** The length of the falling part from a place: it goes on until a letter is less than a period ago. */
